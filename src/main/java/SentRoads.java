@@ -27,9 +27,10 @@ public final class SentRoads {
   private boolean hasImage;
 
   public SentRoads() {
-    now = new World();
+    World world = new World();
+    now = world;
     kept = new World();
-    roads = new Roads(now);
+    roads = new Roads(world);
     tape = new Tape();
     sheets = new Sheet[SHEETS];
     for (int i = 0; i < SHEETS; i++) {
@@ -67,42 +68,30 @@ public final class SentRoads {
     if (n < 1 || n > MOST_YEARS) {
       return BAD;
     }
-    int refusal = refusePaper(from, to, bars, age, promised);
-    if (refusal != 0) {
-      return refusal;
+    int number = addPaper(from, to, bars, age, promised);
+    if (number >= 0) {
+      now.papers[number].become(KIND_YEARS, n, 0);
     }
-    Paper paper = now.papers[now.paperCount];
-    paper.lead(from, to);
-    paper.become(KIND_YEARS, n, 0);
-    paper.rule(bars, age, promised);
-    return now.takePaper();
+    return number;
   }
 
   public int named(int from, int to, int crimes, int bars, int age, int promised) {
     if (!isLand(to) || crimes == 0 || (crimes & ~now.crimesOf(to)) != 0) {
       return BAD;
     }
-    int refusal = refusePaper(from, to, bars, age, promised);
-    if (refusal != 0) {
-      return refusal;
+    int number = addPaper(from, to, bars, age, promised);
+    if (number >= 0) {
+      now.papers[number].become(KIND_NAMED, 1, crimes);
     }
-    Paper paper = now.papers[now.paperCount];
-    paper.lead(from, to);
-    paper.become(KIND_NAMED, 1, crimes);
-    paper.rule(bars, age, promised);
-    return now.takePaper();
+    return number;
   }
 
   public int custom(int from, int to, int bars, int age, int promised) {
-    int refusal = refusePaper(from, to, bars, age, promised);
-    if (refusal != 0) {
-      return refusal;
+    int number = addPaper(from, to, bars, age, promised);
+    if (number >= 0) {
+      now.papers[number].become(KIND_CUSTOM, 1, 0);
     }
-    Paper paper = now.papers[now.paperCount];
-    paper.lead(from, to);
-    paper.become(KIND_CUSTOM, 1, 0);
-    paper.rule(bars, age, promised);
-    return now.takePaper();
+    return number;
   }
 
   public int type(long w, int n) {
@@ -292,19 +281,14 @@ public final class SentRoads {
   }
 
   public int send(int paper) {
-    if (!isPaper(paper)) {
-      return BAD;
+    int deeds = lets(paper);
+    if (deeds < 0) {
+      return deeds;
     }
-    Paper p = now.papers[paper];
-    if (p.from != now.man.at) {
-      return NOT;
-    }
-    now.weigh(p);
-    int deeds = now.man.goesBy(p);
     if (deeds == 0) {
       return NONE;
     }
-    now.man.go(p, deeds);
+    now.man.go(now.papers[paper], deeds);
     now.man.sent++;
     return deeds;
   }
@@ -491,13 +475,19 @@ public final class SentRoads {
     return paper >= 0 && paper < now.paperCount;
   }
 
-  /** BAD, FULL, or 0 where a paper like this has room. */
-  private int refusePaper(int from, int to, int bars, int age, int promised) {
+  /** A paper whose KIND is still to be told: its number, BAD or FULL. */
+  private int addPaper(int from, int to, int bars, int age, int promised) {
     if (!isLand(from) || !isLand(to) || from == to || bars < 0 || bars > ALL_BARS || !isYear(age)
         || promised < 0 || promised > ALL_PROMISES) {
       return BAD;
     }
-    return now.paperCount >= PAPERS ? FULL : 0;
+    if (now.paperCount >= PAPERS) {
+      return FULL;
+    }
+    Paper paper = now.papers[now.paperCount];
+    paper.lead(from, to);
+    paper.rule(bars, age, promised);
+    return now.takePaper();
   }
 
   private static int byteOf(long w, int i) {
