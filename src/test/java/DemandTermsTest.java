@@ -19,6 +19,7 @@ public final class DemandTermsTest {
     mendedWhatCantFall();
     imageIsKept();
     imageIsItsOwn();
+    imageTakesBack();
     imageWithoutSheetsAndTape();
     due.end();
   }
@@ -96,6 +97,8 @@ public final class DemandTermsTest {
     row("DEED 0 was in C; DEED 2 was in B, but stays", x, 2, 0, 1);
     x.bars(0, 0);
     row("DEED 2 goes", x, 0, 2, 1);
+    x.bars(0, 4);
+    row("DEED 2 stays again", x, 2, 0, 1);
   }
 
   private static void aheadByDay() {
@@ -242,9 +245,11 @@ public final class DemandTermsTest {
   private static void imageIsKept() {
     SentRoads x = Fixture.rich();
     x.image();
+    due.is("P22 SENT", x.send(1), 3);
     x.crime(0, 1, 0, 0, 40, true);
     x.deed(63, 63, 1, 1);
     x.custom(1, 2, 0, 0, 0);
+    x.bars(0, 0);
     x.world();
     Due.world(x, "B:a1..40!;B>A*");
     x.bars(1, 0);
@@ -252,7 +257,6 @@ public final class DemandTermsTest {
     x.man(0, 1);
     x.man(2, 99);
     x.judged(0, true);
-    x.send(1);
     x.man(1, 0);
     x.demand(2, 1, 0);
     due.is("P33 restore", x.restore(), 1);
@@ -280,6 +284,32 @@ public final class DemandTermsTest {
     due.is("P33 its CRIME", x.crimeOf(0, 4), 7);
     due.is("P33 not JUDGED", x.judged(0, false), 0);
     due.is("P13 the DEED's YEARS", x.yearsOf(0, 5, 0), 7);
+  }
+
+  /** What comes in the place of something that an IMAGE took back has nothing of it. */
+  private static void imageTakesBack() {
+    SentRoads x = Due.of("A:a1..4;B:a1..4;A>B*+D;B>A*;A>B*j");
+    x.deed(2, 2, 4, 0);
+    x.image();
+    x.crime(0, 2, 0, 0, 40, true);
+    x.crime(1, 2, 0, 0, 30, true);
+    x.deed(3, 3, 0, 9);
+    x.judged(1, true);
+    x.send(0);
+    due.is("P20 DEADLY in A: D binds him", x.lets(1), 0);
+    x.restore();
+    due.is("P12 the DEED has the CRIMES no more", x.matches(0, 0, 0) + x.matches(0, 1, 1), 0);
+    due.is("P13 nor their YEARS", x.yearsOf(0, 0, 0) + x.yearsOf(0, 1, 1), 0);
+    x.crime(0, 4, 0, 0, 7, false);
+    x.crime(1, 8, 0, 0, 7, false);
+    due.is("P3 a DEED in the other's place", x.deed(1, 1, 4, 0), 1);
+    due.is("P17 it is not JUDGED", x.judged(1, false), 0);
+    due.is("P12 it is no CRIME of A but the first", x.matches(1, 0, 0) * 100 + x.matches(1, 0, 1), 101);
+    due.is("P13 its YEARS", x.yearsOf(1, 0, 0) * 100 + x.yearsOf(1, 1, 1), 404);
+    due.is("P12 no other CRIMES", x.matches(0, 0, 0) + x.matches(0, 1, 1), 0);
+    due.is("P20 no j", x.lets(2), 2);
+    due.is("P22 SENT", x.send(0), 2);
+    due.is("P20 it is not DEADLY", x.lets(1), 2);
   }
 
   private static void imageWithoutSheetsAndTape() {

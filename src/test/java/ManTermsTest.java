@@ -10,13 +10,16 @@ public final class ManTermsTest {
     letsWhereDBinds();
     sentForAllThatItLets();
     sentBindsAnew();
+    onlySittingFrees();
     triedEachAlone();
+    triedForOneYear();
     triedWhereDAndOBind();
     roadOfNone();
     roadIsTheShortest();
     roadIsTheFirstOfLikeOnes();
     roadThroughAllLands();
     roadByOnePaperTwice();
+    roadOfTwentySeven();
     roadChangesNothing();
     safeAndHarbours();
     due.end();
@@ -108,6 +111,16 @@ public final class ManTermsTest {
     due.is("T2 DEADLY, S and O PROMISED", d.lets(3), 0);
     due.is("T2 not DEADLY, not PROMISED", d.lets(4), 3);
     due.is("T2 not DEADLY, PROMISED", d.lets(5), 3);
+    d.bars(2, 4);
+    due.is("P24 a ROAD by what D is PROMISED", d.road(2, 0, 0), 2);
+    due.is("P25 C, too", d.lands(), 0b001110);
+    due.is("P29 D is needed", d.promises(2, 0), 1);
+    d.judged(1, true);
+    d.bars(2, 31);
+    d.man(0, 1);
+    due.is("P24 no ROAD: D binds him", d.road(2, 0, -1), NONE);
+    due.is("P25 not to C: D binds him", d.lands(), 0b001010);
+    due.is("P29 none: D binds him", d.promises(2, 0), NONE);
     SentRoads free = sentTo(6, "B>C*;B>A*");
     due.is("T2 D does not bind, but O to A", free.lets(1), 0);
     SentRoads none = sentTo(0, "B>C*;B>C*k");
@@ -151,6 +164,27 @@ public final class ManTermsTest {
     }
   }
 
+  /** Only that he sits AT a LAND anew, be it the same one, frees him. */
+  private static void onlySittingFrees() {
+    SentRoads x = Due.of("A:a1..4;F:a1..4;A>F*+DSO");
+    x.deed(1, 1, 3, 0);
+    x.deed(2, 2, 3, 0);
+    x.send(0);
+    x.man(0, 5);
+    x.man(2, 99);
+    x.judged(0, true);
+    x.bars(0, 31);
+    x.man(1, 6);
+    x.man(1, -1);
+    x.man(3, 5);
+    x.send(0);
+    x.image();
+    x.restore();
+    binds("still", x, 7, 5, 0);
+    due.is("P16 AT", x.man(1, 5), 5);
+    binds("free", x, 0, 5, 0);
+  }
+
   private static void binds(String what, SentRoads x, int promised, int at, int from) {
     due.is("T2 D: " + what, x.bound(0), promised & 1);
     due.is("T2 O: " + what, x.bound(1), (promised & 4) != 0 ? from : NONE);
@@ -175,6 +209,16 @@ public final class ManTermsTest {
     due.is("P23 bound by nothing", x.tried(), 0b0101);
     x.man(1, 2);
     due.is("P23 no CRIMES there", x.tried(), 0);
+  }
+
+  /** The least CRIME of all is one, too. */
+  private static void triedForOneYear() {
+    SentRoads x = Due.of("A:a0..1;B:a0..1;A>B*");
+    x.deed(1, 1, 3, 0);
+    due.is("P23 MOST 1", x.tried(), 1);
+    due.is("P24 MOST 1", x.road(1, 0, -1), 1);
+    due.is("P30 MOST 1", x.mended(1, 0), 0);
+    due.is("P26 no HARBOURS there", x.safe(1), 0b111100);
   }
 
   /** D and O do not keep him from being TRIED, BARS and AGE neither, a DEADLY DEED is TRIED, too. */
@@ -272,6 +316,28 @@ public final class ManTermsTest {
     isRoad("for 0", x, 1, 0, 0);
     isRoad("for 1: there, back, and there again", x, 1, 1, 0, 1, 0);
     isRoad("for 1 in A: there and back", x, 0, 1, 0, 1);
+  }
+
+  /** Papers by which he is SENT again and again, until S binds him to DEED 2 in B. No road there is shorter. */
+  private static void roadOfTwentySeven() {
+    SentRoads x = Due.of("A:a0..9;A:f0..9!;A:e0..9;B:d0..9;B:e0..9!;B:f0..9!;C:a0..9!;C:d0..9!;C:d0..9",
+        "D:f0..9!;D:c0..9!;D:d0..9!;E:a0..9;E:b0..9;E:a0..9;F:f0..9!;F:c0..9!;F:f0..9",
+        "C>F*h;D>E*jh+S;C>E*j+DS;B>C*o+S;A>F*jh+S;E>F*ph+S;E>D*ojh+DS;F>C*ojh+DS;B>E*ojk+DO;A>B*oh+SO;E>B*oj+S;F>E*ojph+O");
+    int[][] deeds = {{31, 0}, {34, 5}, {46, 0}, {38, 2}, {8, 1}, {14, 2}, {57, 2}, {49, 0}};
+    for (int[] d : deeds) {
+      x.deed(d[0], d[0], d[1], 0);
+    }
+    int[] road = {4, 7, 2, 6, 1, 10, 8, 10, 3, 2, 6, 1, 5, 11, 5, 7, 2, 6, 1, 10, 3, 0, 7, 2, 6, 1, 10};
+    isRoad("27 papers", x, 1, 2, road);
+    due.is("P24 none for DEED 1", x.road(1, 1, -1), NONE);
+    for (int i = 0; i < road.length; i++) {
+      due.is("P24 not TRIED on the way, step " + i, x.bound(3) == 1 ? x.tried() & 4 : 0, 0);
+      due.is("P22 SENT, step " + i, x.send(road[i]) > 0 ? 1 : 0, 1);
+      if (i < road.length - 1) {
+        due.is("P24 so many are left", x.road(1, 2, -1), road.length - 1 - i);
+      }
+    }
+    due.is("P23 TRIED in B for DEED 2", x.bound(3) * 100 + (x.tried() & 4), 104);
   }
 
   private static void roadChangesNothing() {

@@ -2,7 +2,7 @@ import java.util.Random;
 
 /** Runs of 512 calls, drawn from fixed seeds, on SentRoads and on the model: every answer must be the same. */
 public final class ModelTest {
-  private static final int RUNS = 1500, CALLS = 512, MOST_WRONG = 20;
+  private static final int RUNS = 1500, TIGHT_RUNS = 300, CALLS = 512, MOST_WRONG = 20;
   private static final int[] ODD = {-1, -2, 6, 7, 8, 12, 16, 17, 24, 32, 40, 41, 63, 64, 99, 100, 256,
     Integer.MIN_VALUE, Integer.MAX_VALUE};
 
@@ -40,6 +40,19 @@ public final class ModelTest {
         if (t.call.startsWith("road(") && t.call.endsWith(", -1)")) greatestRoad = Math.max(greatestRoad, t.got);
       }
     }
+    for (int run = 0; run < TIGHT_RUNS && wrong < MOST_WRONG; run++) {
+      ModelTest t = new ModelTest(100000 + run);
+      t.tightWorld(run % 4);
+      for (int i = 0; i < 48 && t.got == t.want; i++) {
+        t.tightAsk(i % 6, i / 6);
+        asked++;
+        greatestRoad = Math.max(greatestRoad, t.call.endsWith(", -1)") ? t.got : 0);
+      }
+      if (t.got != t.want) {
+        wrong++;
+        System.out.println("tight " + run + ": " + t.call + " answered " + t.got + ", the model says " + t.want);
+      }
+    }
     for (int refusal : new int[] {1, 2, 3, 4, 11, 12, 13, 14}) {
       if (refusals[refusal] == 0) {
         wrong++;
@@ -47,8 +60,46 @@ public final class ModelTest {
       }
     }
     System.out.println(asked + " answers, " + wrong + " not as the model's, the longest road " + greatestRoad);
-    if (wrong != 0 || greatestRoad < 3) {
+    if (wrong != 0 || greatestRoad < 27) {
       System.exit(1);
+    }
+  }
+
+  private static final String[] TIGHT = {
+    "A:a0..9;A:f0..9!;A:e0..9;B:d0..9;B:e0..9!;B:f0..9!;C:a0..9!;C:d0..9!;C:d0..9",
+    "D:f0..9!;D:c0..9!;D:d0..9!;E:a0..9;E:b0..9;E:a0..9;F:f0..9!;F:c0..9!;F:f0..9",
+    "C>F*h;D>E*jh+S;C>E*j+DS;B>C*o+S;A>F*jh+S;E>F*ph+S;E>D*ojh+DS;F>C*ojh+DS;B>E*ojk+DO;A>B*oh+SO;E>B*oj+S;F>E*ojph+O",
+  };
+  private static final int[] TIGHT_DEEDS = {31, 34, 46, 38, 8, 14, 57, 49}, TIGHT_LANDS = {0, 5, 0, 2, 1, 2, 2, 0};
+
+  /** A world with a ROAD of 27 papers, in which a little is drawn anew: roads stay long there. */
+  private void tightWorld(int changes) {
+    for (String text : TIGHT) {
+      type(text);
+      told("world", x.world(), m.world(), text);
+    }
+    for (int d = 0; d < 8; d++) {
+      int charged = below(8) < changes ? 1 + below(63) : TIGHT_DEEDS[d], land = below(8) < changes ? below(6) : TIGHT_LANDS[d];
+      told("deed", x.deed(charged, charged, land, 0), m.deed(charged, charged, land, 0));
+    }
+    for (int p = 0; p < 12; p++) {
+      int bars = below(12) < changes ? below(32) : x.paper(p, 5);
+      told("bars", x.bars(p, bars), m.bars(p, bars), p, bars);
+    }
+    int of = below(4) < changes ? below(6) : 0, at = below(4) < changes ? below(6) : 0;
+    told("man", x.man(0, of), m.man(0, of));
+    told("man", x.man(1, at), m.man(1, at));
+  }
+
+  private void tightAsk(int land, int deed) {
+    int length = x.road(land, deed, -1);
+    if (below(4) == 0) {
+      told("mended", x.mended(land, deed), m.mended(land, deed), land, deed);
+    } else if (length > 0 && below(2) == 0) {
+      int i = below(length);
+      told("road", x.road(land, deed, i), m.road(land, deed, i), land, deed, i);
+    } else {
+      told("road", length, m.road(land, deed, -1), land, deed, -1);
     }
   }
 
@@ -172,18 +223,23 @@ public final class ModelTest {
       return;
     }
     String text = anyText();
-    for (int i = 0; i < text.length(); i += 8) {
+    type(text);
+    if (got == want) {
+      told("world", x.world(), m.world(), text);
+    }
+  }
+
+  private void type(String text) {
+    got = 0;
+    want = 0;
+    for (int i = 0; i < text.length() && got == want; i += 8) {
       String piece = text.substring(i, Math.min(text.length(), i + 8));
       long w = 0;
       for (int k = 0; k < piece.length(); k++) {
         w = w << 8 | piece.charAt(k);
       }
       told("type", x.type(w, piece.length()), m.type(w, piece.length()), piece);
-      if (got != want) {
-        return;
-      }
     }
-    told("world", x.world(), m.world(), text);
   }
 
   private void moves(boolean odd) {

@@ -19,6 +19,7 @@ public final class RoomTest {
     fullAndRestored();
     fullTapeAsWorld();
     rowsOfNoneAndOfSixteen();
+    lowestBits();
     sentOften();
     due.end();
   }
@@ -327,7 +328,32 @@ public final class RoomTest {
       due.is("P14 its last 6", x.shows(0, 3, lane, 10), 0);
       due.is("P14 the last of all is SHOWN", x.shows(0, 3, lane, 9), 32);
       due.is("P14 no longer", x.shows(0, 3, lane, 11), INDEX);
+      due.is("P34 a new row", x.sheet(3, lane, 16), 16);
+      due.is("P14 nothing of the old one", x.shows(0, 3, lane, 10), 0);
+      due.is("P14 nothing of the old one", x.shows(0, 3, lane, 10), 0);
       due.is("P35 drop", x.drop(0) + x.drop(1) * 100 + x.drop(2) * 1000 + x.drop(3) * 10000, 166500);
+    }
+  }
+
+  /** An item becomes v, its lowest bits: 8, 16 or all; it is SHOWN, if these are not 0. */
+  private static void lowestBits() {
+    int[][] values = {
+      {0, 0, 0, 0}, {1, 1, 1, 1}, {-1, 1, 1, 1}, {127, 1, 1, 1}, {128, 1, 1, 1}, {255, 1, 1, 1}, {256, 0, 1, 1}, {257, 1, 1, 1},
+      {-256, 0, 1, 1}, {32767, 1, 1, 1}, {32768, 0, 1, 1}, {65280, 0, 1, 1}, {65535, 1, 1, 1}, {65536, 0, 0, 1}, {65537, 1, 1, 1},
+      {65792, 0, 1, 1}, {-65536, 0, 0, 1}, {0x7FFF0000, 0, 0, 1}, {Integer.MAX_VALUE, 1, 1, 1}, {Integer.MIN_VALUE, 0, 0, 1},
+    };
+    for (int[] v : values) {
+      for (int lane = 0; lane < 3; lane++) {
+        SentRoads x = new SentRoads();
+        x.deed(1, 1, 0, 0);
+        x.sheet(0, lane, 6);
+        due.is("P36 item " + v[0], x.item(0, lane, 3, v[0]), 1);
+        x.shows(0, 0, lane, 0);
+        due.is("P36 " + v[0] + " of LANE " + lane, x.shows(0, 0, lane, 0), v[lane + 1] * 8);
+        x.item(0, lane, 3, 0);
+        x.shows(0, 0, lane, 0);
+        due.is("P36 0 again", x.shows(0, 0, lane, 0), 0);
+      }
     }
   }
 

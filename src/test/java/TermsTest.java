@@ -10,6 +10,7 @@ public final class TermsTest {
     yearsAreTheGreatestMost();
     deadly();
     deadlyBehindAChange();
+    shownAnew();
     coversByYears();
     coversWhereAndHow();
     coversByName();
@@ -87,6 +88,7 @@ public final class TermsTest {
     due.is("T1 paper 4", x.custom(4, 5, 0, 0, 0), 4);
     for (int c = 0; c < 4; c++) {
       due.is("T1 MOST of CRIME " + c, x.crimeOf(c, 4), c + 1);
+      due.is("T1 no DEATH of CRIME " + c, x.crimeOf(c, 5), 0);
     }
     int[] from = {0, 2, 3, 0, 4};
     for (int p = 0; p < 5; p++) {
@@ -155,6 +157,22 @@ public final class TermsTest {
     x.restore();
     due.is("T1 not DEADLY as it was", x.barred(0, 0), 0);
     due.is("T1 SHOWN as it was", x.covers(0), 1);
+  }
+
+  /** What is SHOWN by a SHEET counts as what was SHOWN from the start. */
+  private static void shownAnew() {
+    SentRoads x = Due.of("A:a1..4;A:b1..9;B:a1..4;A>B*;A>By5");
+    x.deed(1, 2, 4, 0);
+    due.is("T1 as SHOWN at first", x.matches(0, 0, 1) * 10000 + x.yearsOf(0, 0, 1) * 100 + x.covers(0), 20900);
+    x.sheet(0, 2, 6);
+    x.item(0, 2, 0, -5);
+    due.is("P14 SHOWN as it was", x.shows(0, 0, 2, 0), 2);
+    due.is("T1 as SHOWN now", x.matches(0, 0, 1) * 10000 + x.yearsOf(0, 0, 1) * 100 + x.covers(0), 10401);
+    due.is("T1 as CHARGED still", x.matches(0, 0, 0) * 100 + x.yearsOf(0, 0, 0), 104);
+    x.item(0, 2, 1, 1);
+    due.is("T1 the SHEET is not the DEED", x.yearsOf(0, 0, 1), 4);
+    due.is("P14 SHOWN as it was", x.shows(0, 0, 2, 0), 1);
+    due.is("T1 both", x.matches(0, 0, 1) * 10000 + x.yearsOf(0, 0, 1) * 100 + x.covers(0), 30901);
   }
 
   private static int covered(int n, int mostFrom, int mostTo) {
@@ -234,6 +252,10 @@ public final class TermsTest {
     due.is("T1 CUSTOM A>B", x.covers(0), 0b00011101);
     due.is("T1 CUSTOM A>C", x.covers(1), 0b00010000);
     due.is("T1 CUSTOM C>B", x.covers(2), 0b00011000);
+    for (int p = 0; p < 3; p++) {
+      int same = x.custom(x.paper(p, 1), x.paper(p, 2), 0, 0, 0);
+      due.is("T1 CUSTOM, not by a text", x.covers(same), x.covers(p));
+    }
   }
 
   /** 1 o: he is of FROM. */
