@@ -1,12 +1,19 @@
 import java.io.IOException;
+import java.lang.reflect.Array;
 import java.lang.reflect.Constructor;
 import java.lang.reflect.Field;
 import java.lang.reflect.Method;
 import java.lang.reflect.Modifier;
 import java.nio.file.Files;
 import java.nio.file.Path;
+import java.util.ArrayDeque;
+import java.util.ArrayList;
 import java.util.Arrays;
+import java.util.Collections;
+import java.util.Deque;
 import java.util.HashSet;
+import java.util.IdentityHashMap;
+import java.util.List;
 import java.util.Set;
 import java.util.TreeSet;
 import java.util.regex.Matcher;
@@ -30,6 +37,7 @@ public final class FaceTest {
   public static void main(String[] args) throws Exception {
     face();
     inside();
+    room();
     if (args.length > 0) {
       text(Path.of(args[0]));
     }
@@ -103,6 +111,49 @@ public final class FaceTest {
     for (Method m : c.getDeclaredMethods()) {
       due.is("rule 11: parameters of " + m, Math.min(7, m.getParameterCount()), m.getParameterCount());
     }
+  }
+
+  /** Rule 12: an object is small (a run has room for 7.3 million fields and elements), and no call makes it grow. */
+  private static void room() throws Exception {
+    int[] made = held(new SentRoads());
+    due.is("rule 12: objects and arrays of one object, " + made[0], Math.min(300, made[0]), made[0]);
+    due.is("rule 12: its fields and elements, " + made[1], Math.min(14000, made[1]), made[1]);
+    for (SentRoads used : new SentRoads[] {Fixture.rich(), Fixture.full()}) {
+      int[] after = held(used);
+      due.is("rule 12: objects and arrays behind many calls", after[0], made[0]);
+      due.is("rule 12: fields and elements behind many calls", after[1], made[1]);
+    }
+  }
+
+  /** How many objects and arrays hang on an object (itself, too), and how many fields and elements these have. */
+  private static int[] held(Object root) throws Exception {
+    Set<Object> seen = Collections.newSetFromMap(new IdentityHashMap<>());
+    Deque<Object> open = new ArrayDeque<>();
+    open.add(root);
+    seen.add(root);
+    int slots = 0;
+    while (!open.isEmpty()) {
+      Object o = open.remove();
+      List<Object> parts = new ArrayList<>();
+      if (o.getClass().isArray()) {
+        slots += Array.getLength(o);
+        parts.addAll(o instanceof Object[] row ? Arrays.asList(row) : List.of());
+      } else {
+        for (Field f : o.getClass().getDeclaredFields()) {
+          if (!Modifier.isStatic(f.getModifiers())) {
+            slots++;
+            f.setAccessible(true);
+            parts.add(f.getType().isPrimitive() ? null : f.get(o));
+          }
+        }
+      }
+      for (Object part : parts) {
+        if (part != null && seen.add(part)) {
+          open.add(part);
+        }
+      }
+    }
+    return new int[] {seen.size(), slots};
   }
 
   private static void text(Path file) throws IOException {
